@@ -6,6 +6,7 @@ public final class P05JoinPipeTest {
         groupsBecomeOne();
         groupsOfGroups();
         joinedBehindTheEvents();
+        allThings();
         wrongInputs();
         CHECK.end();
     }
@@ -49,6 +50,23 @@ public final class P05JoinPipeTest {
         x.joinPipe(0, 1);
         CHECK.due("joined it lasts 5", x.level(0, 5), 0);
         CHECK.due("joined it lasts 5", x.level(1, 4), 1);
+        CHECK.due("seen from each of the two", x.level(1, 5), 0);
+    }
+
+    private static void allThings() {
+        CleanMatrix x = Check.withThings(1, 1, 32);
+        for (int thing = 1; thing < 32; thing++) {
+            CHECK.due("joinPipe(" + thing + ", 0)", x.joinPipe(thing, 0), true);
+        }
+        CHECK.due("all are one group", x.joinPipe(0, 31), false);
+        x.held(31, 0, 0);
+        CHECK.due("a content in the last, seen from the first", x.may(0, 0, 0), 0);
+        for (int thing = 0; thing < 32; thing++) {
+            CHECK.due("not all are clean yet", x.level(0, 0), 0);
+            x.cleaned(thing, 1, 0);
+        }
+        CHECK.due("all are clean", x.level(31, 0), 1);
+        CHECK.due("all are clean", x.may(0, 0, 0), 1);
     }
 
     private static void wrongInputs() {
