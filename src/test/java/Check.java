@@ -1,11 +1,17 @@
 /** Counts the answers that are not the ones that are due. */
 final class Check {
     private int wrong = 0;
+    private String sentence = "";
+
+    /** The document's sentence that the answers from here on stand under. */
+    void sentence(String words) {
+        sentence = "\"" + words + "\": ";
+    }
 
     void due(String call, long got, long want) {
         if (got != want) {
             wrong++;
-            System.out.println(call + " answered " + got + ", due is " + want);
+            System.out.println(sentence + call + " answered " + got + ", due is " + want);
         }
     }
 

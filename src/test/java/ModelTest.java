@@ -169,12 +169,14 @@ public final class ModelTest {
         return Math.max(0, now + random.nextInt(2 * spread) - spread);
     }
 
-    private void call() {
+    /** How many calls were made: behind the 512th the answers are free. */
+    private int calls() {
         if (random.nextInt(4) == 0) now += random.nextInt(3);
         int what = random.nextInt(100);
         if (what < 20) tellNumbers(what);
-        else if (what < 55) tellEvents(what);
-        else ask();
+        else if (what < 65) tellEvents(what);
+        else return ask();
+        return 1;
     }
 
     private void tellNumbers(int what) {
@@ -217,10 +219,10 @@ public final class ModelTest {
         int kind = near(model.kinds);
         int level = near(model.levels + 1);
         long hour = anHour();
-        if (what < 30) {
+        if (what < 33) {
             boolean due = model.kind(kind) && model.inTime(new Event(thing, kind, 0, hour, false));
             check.due(run + "held", real.held(thing, kind, hour), due);
-        } else if (what < 45) {
+        } else if (what < 52) {
             boolean due = 1 <= level && level <= model.levels
                 && model.inTime(new Event(thing, -1, level, hour, false));
             check.due(run + "cleaned", real.cleaned(thing, level, hour), due);
@@ -230,7 +232,7 @@ public final class ModelTest {
         }
     }
 
-    private void ask() {
+    private int ask() {
         int thing = near(model.things);
         int kind = near(model.kinds);
         long hour = anHour();
@@ -240,14 +242,15 @@ public final class ModelTest {
         int may = good ? (level >= model.needed(thing, kind, hour) ? 1 : 0) : -1;
         check.due(run + "may", real.may(thing, kind, hour), may);
         check.due(run + "least", real.least(thing, kind, hour), good ? model.least(thing, kind, hour) : -1);
+        return 3;
     }
 
     public static void main(String[] args) {
         Check check = new Check();
         for (int seed = 0; seed < RUNS; seed++) {
             ModelTest test = new ModelTest(check, seed);
-            for (int i = 0; i < CALLS; i++) {
-                test.call();
+            for (int made = 0; made + 3 <= CALLS; ) {
+                made += test.calls();
             }
         }
         check.end();
