@@ -142,6 +142,8 @@ public final class ModelTest {
     private final CleanMatrix real;
     private final String run;
     private final int spread;
+    /** Such a run comes to 200 events, which a mixed one does not. */
+    private final boolean busy;
     private long now = 0;
 
     private ModelTest(Check check, int seed) {
@@ -153,7 +155,8 @@ public final class ModelTest {
         this.model = new Model(kinds, levels);
         this.real = new CleanMatrix(kinds, levels);
         this.run = "seed " + seed + " ";
-        this.spread = 1 + random.nextInt(60);
+        this.busy = seed % 4 == 0;
+        this.spread = 1 + random.nextInt(busy ? 3 : 60);
     }
 
     private int near(int count) {
@@ -172,7 +175,7 @@ public final class ModelTest {
     /** How many calls were made: behind the 512th the answers are free. */
     private int calls() {
         if (random.nextInt(4) == 0) now += random.nextInt(3);
-        int what = random.nextInt(100);
+        int what = busy && model.things > 0 && random.nextInt(8) > 0 ? 20 + random.nextInt(45) : random.nextInt(100);
         if (what < 20) tellNumbers(what);
         else if (what < 65) tellEvents(what);
         else return ask();
