@@ -13,17 +13,24 @@ public final class E00TermsTest {
     public static void main(String[] args) {
         constants();
         lastCall();
+        lastCallOfEach();
         kinds();
         levels();
         things();
         hours();
+        hoursKeepApart();
         groups();
         groupAlone();
+        groupAloneWhenMadeLater();
         needsNotTold();
         needOfNoKind();
         needByAllergens();
+        needByAllergensInAGroup();
         eventsOfAllThings();
+        allElseWhenFullOfEvents();
+        firstOfAllEvents();
         orderOfHours();
+        orderOfAllEvents();
         orderInOneHour();
         holdsBehindTheLastContent();
         holdsEverWithoutContent();
@@ -34,6 +41,7 @@ public final class E00TermsTest {
         levelNone();
         levelOfTheGroup();
         mayBehindEach();
+        mayByTheGroupsLevel();
         mayBehindNone();
         CHECK.end();
     }
@@ -63,6 +71,48 @@ public final class E00TermsTest {
         CHECK.due("call 510", x.allergen(0, 9), 0);
         CHECK.due("call 511", x.hours(2, 0, 0), true);
         CHECK.due("call 512", x.level(7, 199), 1);
+    }
+
+    /** Calls that change nothing in the object of beforeTheLastCall(). */
+    private static final Twins.Call[] IDLE = {
+        x -> Twins.number(x.need(0, 0, 1)), x -> Twins.number(x.hours(1, 1, 24)), CleanMatrix::thing,
+        x -> Twins.number(x.joinPipe(0, 1)), x -> Twins.number(x.held(0, 1, 5)),
+        x -> Twins.number(x.cleaned(0, 0, 5)), x -> x.may(0, 0, 5), x -> x.least(0, 0, 5),
+        x -> Twins.number(x.cost(1, 0)), x -> x.level(0, 5), x -> Twins.number(x.told(0, 0, 6, 5)),
+        x -> x.allergen(0, 3)};
+
+    private static CleanMatrix beforeTheLastCall(Twins.Call idle) {
+        CleanMatrix x = Check.withThings(1, 2, 32);
+        x.need(0, 0, 1);
+        x.joinPipe(0, 1);
+        x.held(0, 0, 5);
+        x.cleaned(0, 1, 5);
+        x.cleaned(1, 1, 5);
+        x.allergen(0, 3);
+        for (int call = 39; call < 512; call++) {
+            idle.on(x);
+        }
+        return x;
+    }
+
+    private static void lastCallOfEach() {
+        CHECK.sentence("at most 512 calls after it has been made");
+        for (int each = 0; each < IDLE.length; each++) {
+            Twins.Call idle = IDLE[each];
+            String behind = " behind 473 calls of method " + each;
+            CHECK.due("need" + behind, beforeTheLastCall(idle).need(0, 0, 2), true);
+            CHECK.due("hours" + behind, beforeTheLastCall(idle).hours(2, 1, 7), true);
+            CHECK.due("thing" + behind, beforeTheLastCall(idle).thing(), CleanMatrix.FULL);
+            CHECK.due("joinPipe" + behind, beforeTheLastCall(idle).joinPipe(1, 2), true);
+            CHECK.due("held" + behind, beforeTheLastCall(idle).held(0, 0, 5), true);
+            CHECK.due("cleaned" + behind, beforeTheLastCall(idle).cleaned(0, 2, 5), true);
+            CHECK.due("may" + behind, beforeTheLastCall(idle).may(0, 0, 28), 1);
+            CHECK.due("least" + behind, beforeTheLastCall(idle).least(0, 0, 29), 1);
+            CHECK.due("cost" + behind, beforeTheLastCall(idle).cost(2, 7), true);
+            CHECK.due("level" + behind, beforeTheLastCall(idle).level(1, 5), 1);
+            CHECK.due("told" + behind, beforeTheLastCall(idle).told(0, 0, 3, 5), true);
+            CHECK.due("allergen" + behind, beforeTheLastCall(idle).allergen(0, 9), 3);
+        }
     }
 
     private static void kinds() {
@@ -160,6 +210,22 @@ public final class E00TermsTest {
         }
     }
 
+    private static void hoursKeepApart() {
+        CHECK.sentence("Hours are 0 .. 1,000,000 (each its own)");
+        for (int hour : Edge.widths(1_000_000)) {
+            CleanMatrix x = Check.withThings(1, 1, 3);
+            x.held(0, 0, hour);
+            x.cleaned(1, 1, hour);
+            x.told(2, 0, hour, 1_000_000);
+            for (int asked : Edge.widths(1_000_000)) {
+                String call = "of hour " + hour + ", at hour " + asked;
+                CHECK.due("a content " + call, x.may(0, 0, asked), asked < hour ? 1 : 0);
+                CHECK.due("a cleaning " + call, x.level(1, asked), asked >= hour && asked < hour + 24 ? 1 : 0);
+                CHECK.due("a content told late " + call, x.may(2, 0, asked), asked < hour ? 1 : 0);
+            }
+        }
+    }
+
     private static void groups() {
         CHECK.sentence("those that are joined, also over others, are a GROUP");
         CleanMatrix x = Check.withThings(1, 1, 32);
@@ -189,6 +255,21 @@ public final class E00TermsTest {
         CHECK.due("the others' contents do not count", x.may(2, 0, 9), 1);
         CHECK.due("it lasts as one alone", x.level(2, 1), 1);
         CHECK.due("it lasts no longer", x.level(2, 2), 0);
+    }
+
+    private static void groupAloneWhenMadeLater() {
+        CHECK.sentence("one that is joined to none is a group alone (made when others are joined)");
+        CleanMatrix x = Check.withThings(1, 1, 2);
+        for (int made = 2; made < 32; made++) {
+            x.joinPipe(made - 2, made - 1);
+            x.held(made - 1, 0, 0);
+            x.thing();
+            CHECK.due("no content of its own, " + made, x.may(made, 0, 0), 1);
+            x.cleaned(made, 1, 0);
+            CHECK.due("clean by itself, " + made, x.level(made, 0), 1);
+            CHECK.due("the others are not, " + made, x.level(made - 1, 0), 0);
+        }
+        CHECK.due("two groups still", x.joinPipe(0, 31), true);
     }
 
     private static void needsNotTold() {
@@ -240,6 +321,75 @@ public final class E00TermsTest {
         }
     }
 
+    private static void needByAllergensInAGroup() {
+        CHECK.sentence("the highest when f has an allergen that t has not (f in another thing)");
+        CleanMatrix x = Check.withThings(3, 3, 3);
+        x.joinPipe(0, 1);
+        x.joinPipe(1, 2);
+        x.need(0, 1, 0);
+        x.need(2, 1, 1);
+        x.held(0, 0, 0);
+        x.held(2, 2, 0);
+        for (int thing = 0; thing < 3; thing++) {
+            CHECK.due("without allergens, seen from " + thing, x.least(thing, 1, 0), 1);
+        }
+        x.allergen(0, 4);
+        for (int thing = 0; thing < 3; thing++) {
+            CHECK.due("an allergen in the first, seen from " + thing, x.least(thing, 1, 0), 3);
+            CHECK.due("an allergen in the first, seen from " + thing, x.may(thing, 1, 0), 0);
+        }
+        x.allergen(1, 4);
+        CHECK.due("the kind has it too", x.least(1, 1, 0), 1);
+    }
+
+    private static void allElseWhenFullOfEvents() {
+        CHECK.sentence("at most 200 of all things together (all else goes on)");
+        CleanMatrix x = Check.withThings(2, 2, 2);
+        x.held(0, 0, 0);
+        for (int event = 1; event < 200; event++) {
+            x.cleaned(1, 2, 0);
+        }
+        CHECK.due("full", x.cleaned(1, 2, 0), false);
+        CHECK.due("thing()", x.thing(), 2);
+        CHECK.due("it is alone", x.may(2, 0, 0), 1);
+        CHECK.due("it has no events", x.level(2, 0), 0);
+        CHECK.due("need", x.need(0, 1, 1), true);
+        CHECK.due("the need counts", x.least(0, 1, 0), 1);
+        CHECK.due("cost", x.cost(1, 5), true);
+        CHECK.due("the cost counts", x.least(0, 1, 0), 2);
+        CHECK.due("hours", x.hours(2, 0, 30), true);
+        CHECK.due("the hours count", x.level(1, 29), 2);
+        CHECK.due("allergen", x.allergen(1, 8), 0);
+        CHECK.due("allergen", x.allergen(0, 9), 0);
+        CHECK.due("the allergens count", x.least(0, 1, 0), 2);
+        CHECK.due("joinPipe", x.joinPipe(1, 0), true);
+        CHECK.due("the pipe counts", x.level(1, 0), 0);
+        CHECK.due("the pipe counts", x.may(1, 1, 0), 0);
+    }
+
+    private static void firstOfAllEvents() {
+        CHECK.sentence("at most 200 of all things together (the first counts behind 199 others)");
+        CleanMatrix x = Check.withThings(2, 3, 1);
+        x.need(0, 1, 1);
+        x.held(0, 0, 3);
+        for (int event = 1; event < 200; event++) {
+            x.cleaned(0, 1, 7);
+        }
+        CHECK.due("the only content", x.may(0, 0, 7), 0);
+        CHECK.due("the only content", x.may(0, 1, 7), 1);
+        CHECK.due("before the cleanings", x.least(0, 1, 3), 1);
+        CHECK.due("before all", x.least(0, 1, 2), 0);
+
+        CleanMatrix y = Check.withThings(1, 3, 1);
+        y.cleaned(0, 3, 3);
+        for (int event = 1; event < 200; event++) {
+            y.cleaned(0, 1, 7);
+        }
+        CHECK.due("the only high cleaning", y.level(0, 7), 3);
+        CHECK.due("before the others", y.level(0, 3), 3);
+        CHECK.due("before all", y.level(0, 2), 0);
+    }
+
     private static void eventsOfAllThings() {
         CHECK.sentence("at most 200 of all things together");
         CleanMatrix x = Check.withThings(2, 2, 32);
@@ -273,6 +423,22 @@ public final class E00TermsTest {
         for (int place = 0; place < 4; place++) {
             CHECK.due("from its hour on", x.least(0, 0, place * 10L), due[place]);
             CHECK.due("up to the next", x.least(0, 0, place * 10L + 9), due[place]);
+        }
+    }
+
+    private static void orderOfAllEvents() {
+        CHECK.sentence("they happen in the order of their hours (all 200 of one thing)");
+        CleanMatrix x = Check.withThings(10, 9, 1);
+        for (int from = 0; from < 10; from++) {
+            x.need(from, 0, from);
+        }
+        // 77 and 200 have no divisor in common, so every hour comes just once.
+        for (int event = 0; event < 200; event++) {
+            int hour = event * 77 % 200;
+            CHECK.due("hour " + hour, x.told(0, hour % 10, hour, 500), true);
+        }
+        for (int hour = 0; hour < 200; hour++) {
+            CHECK.due("the content of hour " + hour, x.least(0, 0, hour), hour % 10);
         }
     }
 
@@ -449,6 +615,32 @@ public final class E00TermsTest {
         CHECK.due("the last of one hour counts", x.least(2, 2, 4), 2);
         x.hours(2, 1, 1);
         CHECK.due("one level less than needed", x.may(2, 2, 7), 0);
+    }
+
+    private static void mayByTheGroupsLevel() {
+        CHECK.sentence("when the group's level then is at least what it needs");
+        for (int levels : new int[] {1, 3}) {
+            CleanMatrix x = Check.withThings(1, levels, 2);
+            x.joinPipe(0, 1);
+            x.held(0, 0, 0);
+            x.cleaned(0, levels, 1);
+            for (int thing = 0; thing < 2; thing++) {
+                CHECK.due("one without content is not clean, seen from " + thing, x.may(thing, 0, 1), 0);
+                CHECK.due("one without content is not clean, seen from " + thing, x.least(thing, 0, 1), levels);
+            }
+            x.cleaned(1, levels, 1);
+            CHECK.due("both are clean", x.may(0, 0, 1), 1);
+        }
+        CleanMatrix y = Check.withThings(3, 3, 2);
+        y.need(0, 2, 1);
+        y.need(1, 2, 3);
+        y.joinPipe(0, 1);
+        y.held(0, 0, 0);
+        y.held(1, 1, 0);
+        y.cleaned(0, 1, 1);
+        y.cleaned(1, 3, 1);
+        CHECK.due("each is clean enough for its own content alone", y.may(0, 2, 1), 0);
+        CHECK.due("each is clean enough for its own content alone", y.least(1, 2, 1), 3);
     }
 
     private static void mayBehindNone() {

@@ -6,6 +6,7 @@ public final class E02NeedTest {
     public static void main(String[] args) {
         told();
         lastTold();
+        eachPair();
         noKind();
         noLevel();
         CHECK.end();
@@ -40,6 +41,24 @@ public final class E02NeedTest {
             x.need(0, 1, level);
             CHECK.due("told anew", x.least(0, 1, 0), level);
         }
+    }
+
+    private static void eachPair() {
+        CHECK.sentence("the one that was told for these (and for no others)");
+        for (int from = 0; from < 20; from++) {
+            CleanMatrix x = Check.withThings(20, 9, 1);
+            for (int pair = 0; pair < 400; pair++) {
+                x.need(pair / 20, pair % 20, levelOf(pair / 20, pair % 20));
+            }
+            x.held(0, from, 0);
+            for (int to = 0; to < 20; to++) {
+                CHECK.due(to + " behind " + from, x.least(0, to, 0), levelOf(from, to));
+            }
+        }
+    }
+
+    private static int levelOf(int from, int to) {
+        return (from * 7 + to * 3 + from * to) % 10;
     }
 
     private static void noKind() {

@@ -6,6 +6,7 @@ public final class E03HoursTest {
     public static void main(String[] args) {
         levelsAndStates();
         leastAndMostHours();
+        hoursKeepApart();
         otherLevels();
         otherStates();
         otherHours();
@@ -55,6 +56,23 @@ public final class E03HoursTest {
             CHECK.due("100,000", x.hours(1, state, 100_000), true);
             CHECK.due("99,999 hours", x.level(0, 100_004), 1);
             CHECK.due("100,000 hours", x.level(0, 100_005), 0);
+        }
+    }
+
+    private static void hoursKeepApart() {
+        CHECK.sentence("h is .. 0 .. 100,000 (each its own)");
+        for (int h : Edge.widths(100_000)) {
+            CleanMatrix x = Check.withThings(1, 1, 3);
+            x.joinPipe(1, 2);
+            x.hours(1, 0, h);
+            x.hours(1, 1, h);
+            for (int thing = 0; thing < 3; thing++) {
+                x.cleaned(thing, 1, 0);
+            }
+            for (int gone : Edge.widths(1_000_000)) {
+                CHECK.due(gone + " hours of " + h + ", alone", x.level(0, gone), gone < h ? 1 : 0);
+                CHECK.due(gone + " hours of " + h + ", joined", x.level(1, gone), gone < h ? 1 : 0);
+            }
         }
     }
 

@@ -8,6 +8,7 @@ public final class E09LeastTest {
         atLeastWhatItNeeds();
         costsLeast();
         ofTheseTheLeast();
+        alsoOneThatDoesNotLast();
         kindsThatAreNone();
         thenItMay();
         noThing();
@@ -85,6 +86,28 @@ public final class E09LeastTest {
         x.cost(9, 7);
         x.cost(6, 7);
         CHECK.due("the least of two", x.least(0, 0, 0), 6);
+    }
+
+    private static void alsoOneThatDoesNotLast() {
+        CHECK.sentence("of the levels that are at least what it needs (how long they last is not asked)");
+        CleanMatrix x = Check.withThings(1, 4, 3);
+        x.joinPipe(1, 2);
+        x.need(0, 0, 2);
+        x.held(0, 0, 0);
+        x.held(1, 0, 0);
+        for (int state = 0; state < 2; state++) {
+            x.hours(2, state, 0);
+            x.hours(4, state, 0);
+        }
+        for (int thing = 0; thing < 2; thing++) {
+            x.cost(2, 0);
+            CHECK.due("the least level, state " + thing, x.least(thing, 0, 0), 2);
+            x.cost(2, 9);
+            x.cost(3, 9);
+            CHECK.due("the highest is the cheapest, state " + thing, x.least(thing, 0, 0), 4);
+            x.cleaned(thing, 4, 0);
+            CHECK.due("cleaned with it, but it lasts no hour, state " + thing, x.least(thing, 0, 24), 4);
+        }
     }
 
     private static void kindsThatAreNone() {

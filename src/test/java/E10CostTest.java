@@ -6,6 +6,7 @@ public final class E10CostTest {
     public static void main(String[] args) {
         firstAndLastLevel();
         leastAndMostCents();
+        centsKeepApart();
         notTold();
         otherLevels();
         otherCents();
@@ -43,6 +44,20 @@ public final class E10CostTest {
         CHECK.due("0 is cheaper than 1", x.least(0, 0, 0), 2);
         CHECK.due("0", x.cost(1, 0), true);
         CHECK.due("both cost 0", x.least(0, 0, 0), 1);
+    }
+
+    private static void centsKeepApart() {
+        CHECK.sentence("0 .. 1,000,000 (each its own)");
+        for (int low : Edge.widths(1_000_000)) {
+            CleanMatrix x = Check.withThings(1, 2, 1);
+            x.need(0, 0, 1);
+            x.held(0, 0, 0);
+            for (int other : Edge.widths(1_000_000)) {
+                x.cost(1, low);
+                x.cost(2, other);
+                CHECK.due("1 for " + low + ", 2 for " + other, x.least(0, 0, 0), other < low ? 2 : 1);
+            }
+        }
     }
 
     private static void notTold() {

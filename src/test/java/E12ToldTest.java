@@ -15,6 +15,8 @@ public final class E12ToldTest {
         onBelowAnEventInTime();
         onBelowAnEventToldLate();
         onBelowAnEventInTimeBehindLateOnes();
+        onsKeepApart();
+        behindManyEvents();
         notBelowOthers();
         full();
         CHECK.end();
@@ -170,6 +172,41 @@ public final class E12ToldTest {
         CHECK.due("one below the one in time", x.told(0, 0, 5, 9), false);
         CHECK.due("its hour", x.told(0, 0, 5, 10), true);
         CHECK.due("the first content is not behind the refused one", x.may(0, 0, 4), 1);
+    }
+
+    private static void onsKeepApart() {
+        CHECK.sentence("on is below the hour, or below the hour of an event (each hour its own)");
+        for (int hour : Edge.widths(1_000_000)) {
+            CleanMatrix x = Check.withThings(1, 1, 2);
+            x.cleaned(0, 1, hour);
+            for (int on : Edge.widths(1_000_000)) {
+                CHECK.due("on " + on + ", a cleaning at " + hour, x.told(0, 0, 0, on), on >= hour);
+                CHECK.due("on " + on + ", the hour " + hour, x.told(1, 0, hour, on), on >= hour);
+            }
+        }
+    }
+
+    private static void behindManyEvents() {
+        CHECK.sentence("it takes its place; below the hour of an event that was not told late (of 200)");
+        CleanMatrix x = Check.withThings(2, 1, 1);
+        x.need(1, 1, 0);
+        x.told(0, 1, 4, 5);
+        for (int event = 1; event < 199; event++) {
+            x.told(0, 1, 5, 5);
+        }
+        CHECK.due("the last of 200 before all others", x.told(0, 0, 3, 5), true);
+        CHECK.due("it is there", x.may(0, 1, 3), 0);
+        CHECK.due("it is before the first of the others", x.may(0, 1, 4), 1);
+        CHECK.due("it is before the others", x.may(0, 1, 5), 1);
+
+        CleanMatrix y = Check.withThings(1, 1, 1);
+        y.cleaned(0, 1, 10);
+        for (int event = 0; event < 198; event++) {
+            y.told(0, 0, 20, 20);
+        }
+        CHECK.due("below the only one in time", y.told(0, 0, 3, 9), false);
+        CHECK.due("its hour", y.told(0, 0, 3, 10), true);
+        CHECK.due("full", y.told(0, 0, 3, 10), false);
     }
 
     private static void notBelowOthers() {

@@ -6,6 +6,7 @@ public final class E13AllergenTest {
     public static void main(String[] args) {
         eachBit();
         leastAndMostBits();
+        eachPair();
         atFirst();
         thoseBefore();
         noKind();
@@ -46,6 +47,27 @@ public final class E13AllergenTest {
         CHECK.due("the first is missing", x.may(0, 19, 0), 0);
         x.allergen(19, 32_767);
         CHECK.due("the last is missing", x.may(0, 19, 0), 0);
+    }
+
+    private static void eachPair() {
+        CHECK.sentence("The allergens of a kind are these (and of no other)");
+        for (int from = 0; from < 20; from++) {
+            CleanMatrix x = Check.withThings(20, 9, 1);
+            for (int kind = 0; kind < 20; kind++) {
+                x.allergen(kind, bitsOf(kind));
+                x.need(from, kind, kind % 9);
+            }
+            x.held(0, from, 0);
+            for (int to = 0; to < 20; to++) {
+                boolean lacks = (bitsOf(from) & ~bitsOf(to)) != 0;
+                CHECK.due(to + " behind " + from, x.least(0, to, 0), lacks ? 9 : to % 9);
+            }
+        }
+    }
+
+    /** Some of these are parts of others, some are the same, and one is none. */
+    private static int bitsOf(int kind) {
+        return ((1 << (kind % 7)) - 1) << (2 * (kind % 5));
     }
 
     private static void atFirst() {

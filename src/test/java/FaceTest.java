@@ -51,6 +51,15 @@ public final class FaceTest {
         for (String member : FACE) {
             check.due("there: " + member, seen.contains(member), true);
         }
+        for (Class<?> inside : CleanMatrix.class.getDeclaredClasses()) {
+            int has = inside.getModifiers();
+            check.due("static: " + inside, Modifier.isStatic(has), true);
+            check.due("not to be seen: " + inside, Modifier.isPublic(has) || Modifier.isProtected(has), false);
+        }
+        check.due("public class", Modifier.isPublic(CleanMatrix.class.getModifiers()), true);
+        check.due("a class of its own", CleanMatrix.class.getSuperclass() == Object.class, true);
+        check.due("of no other kind", CleanMatrix.class.getInterfaces().length, 0);
+        check.due("without a package", CleanMatrix.class.getPackageName().isEmpty(), true);
         check.due("final class", Modifier.isFinal(CleanMatrix.class.getModifiers()), true);
         check.due("NONE", CleanMatrix.NONE, -1);
         check.due("FULL", CleanMatrix.FULL, -2);
